@@ -11,6 +11,8 @@ public final class FlowKernel {
     private static final int MAX_JOBS = 16;
     private static final int MAX_RUN = 200;
     private static final int EVENTS_KEPT = 64;
+    /** A mask, for it gives a place in the rings for every int. */
+    private static final int EVENT_PLACES = EVENTS_KEPT - 1;
     private static final int EVENT_KINDS = 32;
 
     private static final int NO_ERROR = -1;
@@ -684,7 +686,7 @@ public final class FlowKernel {
         private int count;
 
         void note(int kind, int stream, int first, int second) {
-            int slot = count % EVENTS_KEPT;
+            int slot = count & EVENT_PLACES;
             heads[slot] = kind + EVENT_KINDS * stream;
             firsts[slot] = first;
             seconds[slot] = second;
@@ -695,7 +697,7 @@ public final class FlowKernel {
             if (i < 0 || i >= count || i < count - EVENTS_KEPT) {
                 return 0;
             }
-            int slot = i % EVENTS_KEPT;
+            int slot = i & EVENT_PLACES;
             switch (what) {
                 case 0:
                     return heads[slot];
@@ -783,7 +785,7 @@ public final class FlowKernel {
         }
     }
 
-    /** A pull, a parting's chunk, a taker's deed and a pump wait at most once for each of theirs, so MAX_JOBS is enough. */
+    /** At most one job waits for each giver, parting, taker and pipe, twelve in all, so that MAX_JOBS is enough. */
     private static final class JobRow {
         private final Row kinds = new Row(MAX_JOBS);
         private final Row numbers = new Row(MAX_JOBS);
@@ -953,6 +955,7 @@ public final class FlowKernel {
             } else {
                 queue.add(chunk);
                 writesWaiting.add(writes);
+                // It is open here, so that it can't break when it goes on.
                 startNext();
             }
             return writes;
