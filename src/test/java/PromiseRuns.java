@@ -1,26 +1,5 @@
 /** For each promise of the document: ordinary inputs, the edges that it names, and wrong inputs. */
-public final class PromiseRuns {
-    private static int wrong = 0;
-
-    private static void due(int promise, String what, long got, long want) {
-        if (got != want) {
-            wrong++;
-            System.out.println("promise " + promise + ", " + what + ": answered " + got + ", due is " + want);
-        }
-    }
-
-    private static void due(int promise, String what, boolean got, boolean want) {
-        due(promise, what, got ? 1 : 0, want ? 1 : 0);
-    }
-
-    /** The whole of event i. */
-    private static void dueEvent(int promise, FlowKernel x, int i, int... want) {
-        String what = "event " + i;
-        due(promise, what + ", kind", x.event(i, 0), want[0] + 32 * want[1]);
-        due(promise, what + ", first", x.event(i, 1), want.length > 2 ? want[2] : 0);
-        due(promise, what + ", second", x.event(i, 2), want.length > 3 ? want[3] : 0);
-    }
-
+public final class PromiseRuns extends Dues {
     private static FlowKernel withGiver(int mark, boolean byValue) {
         FlowKernel x = new FlowKernel();
         x.giver(mark, byValue);
@@ -98,10 +77,7 @@ public final class PromiseRuns {
         events();
         event();
         refusedChangesNothing();
-        System.out.println(wrong == 0 ? "all answers are as due" : wrong + " answers are not as due");
-        if (wrong != 0) {
-            System.exit(1);
-        }
+        finish();
     }
 
     private static void newObject() {
