@@ -50,6 +50,7 @@ public final class EdgeRuns extends Dues {
         stepNone();
         runUntilNoneWaits();
         jobsWaiting();
+        jobsOfAll();
         askedOfNone();
         giverStateParts();
         giverRoomEdges();
@@ -943,29 +944,36 @@ public final class EdgeRuns extends Dues {
         x.pipe(0, 0, 0);
         x.pipe(1, 1, 0);
         due(19, "one for each giver, taker and pipe", x.jobs(), 10);
-        FlowKernel most = new FlowKernel();
-        times(2, () -> most.giver(1, false));
-        most.part(0);
-        most.part(1);
-        most.taker(1, false);
-        most.taker(1, false);
-        for (int r = 2; r <= 5; r++) {
-            most.read(r);
+    }
+
+    /** All that can wait at once: for four branches, two partings, two roots, two takers and two pipes. */
+    private static void jobsOfAll() {
+        FlowKernel x = made(givers(2));
+        x.part(0);
+        x.part(1);
+        for (int w = 0; w <= 1; w++) {
+            x.taker(2, false);
+            x.write(w, 1);
+            x.pipe(2 + 2 * w, w, 0);
         }
-        most.put(0, 1);
-        most.put(1, 1);
-        most.pulled(0, -1);
-        most.pulled(1, -1);
-        most.write(0, 1);
-        most.write(1, 1);
-        most.settle(0, -1);
-        most.settle(1, -1);
-        due(19, "four branches, two partings, two roots, two takers", most.jobs(), 10);
-        int[] order = {1, 1, 1, 1, 2, 2, 1, 1, 3, 3};
+        x.step();
+        x.step();
+        x.read(3);
+        x.read(5);
+        for (int i = 0; i <= 1; i++) {
+            x.put(i, 1);
+        }
+        for (int i = 0; i <= 1; i++) {
+            x.pulled(i, -1);
+        }
+        for (int i = 0; i <= 1; i++) {
+            x.settle(i, -1);
+        }
+        due(19, "twelve", x.jobs(), 12);
+        int[] order = {1, 6, 1, 6, 1, 1, 2, 2, 1, 1, 3, 3};
         for (int kind : order) {
-            due(19, "the first first", most.step(), kind);
+            due(19, "the first first", x.step(), kind);
         }
-        due(19, "none", most.jobs(), 0);
     }
 
     // Promises 20 to 26.

@@ -3,7 +3,8 @@ import java.util.List;
 
 /**
  * Long runs of calls, drawn from fixed seeds, on the class and on a model that follows the document's sentences
- * one by one; after every call all that can be asked is compared.
+ * one by one; after every call all that can be asked is compared. With these questions an object has far more than 512
+ * calls; the document leaves their answers free, but the class answers on.
  */
 public final class ModelRuns {
     private static final int RUNS = 12000;
